@@ -230,6 +230,8 @@ public final class LinkTest {
         x.lose(1);
         x.deliver(1);
         Checks.due("4: rejects anew", Checks.line(x, 0), "[4 0 1 0 0 0 0 0][5 0 1 0 0 0 0 0]");
+        x.open(1);
+        Checks.due("2: a station that is cleaned has not rejected", x.link(1, Checks.REJECTED), 0);
     }
 
     private static void promise4RejectSendsAgainAndPumps() {
