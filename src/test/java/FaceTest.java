@@ -8,21 +8,21 @@ import java.util.TreeSet;
 /** The face is the document's and nothing more (rule 1 of LANGUAGE.md), and an object has no state of its class's. */
 public final class FaceTest {
     private static final String[] FACE = {
-        "void open(int)",
-        "int expire(int)",
-        "int deliver(int)",
-        "int lose(int)",
-        "boolean hand(int,int,int,int,int)",
-        "void call(int,int)",
-        "void accept(int,int)",
-        "void clear(int,int)",
-        "void reset(int,int)",
-        "boolean send(int,int,int,boolean)",
-        "int receive(int,int)",
-        "int link(int,int)",
-        "int channel(int,int,int)",
-        "int frame(int,int,int)",
-        "int peek(int,int)",
+        "void open(int) INDEX",
+        "int expire(int) INDEX STATE",
+        "int deliver(int) INDEX ELEMENT",
+        "int lose(int) INDEX ELEMENT",
+        "boolean hand(int,int,int,int,int) INDEX",
+        "void call(int,int) INDEX STATE",
+        "void accept(int,int) INDEX STATE",
+        "void clear(int,int) INDEX STATE",
+        "void reset(int,int) INDEX STATE",
+        "boolean send(int,int,int,boolean) INDEX ARGUMENT STATE",
+        "int receive(int,int) INDEX STATE ELEMENT",
+        "int link(int,int) INDEX",
+        "int channel(int,int,int) INDEX",
+        "int frame(int,int,int) INDEX",
+        "int peek(int,int) INDEX",
     };
 
     public static void main(String[] args) {
@@ -58,7 +58,21 @@ public final class FaceTest {
         for (Class<?> parameter : method.getParameterTypes()) {
             text.append(text.charAt(text.length() - 1) == '(' ? "" : ",").append(parameter);
         }
-        return text.append(')').toString();
+        text.append(')');
+        for (Class<?> exception : method.getExceptionTypes()) {
+            text.append(' ').append(shortName(exception));
+        }
+        return text.toString();
+    }
+
+    private static String shortName(Class<?> exception) {
+        switch (exception.getName()) {
+            case "java.lang.IndexOutOfBoundsException": return "INDEX";
+            case "java.lang.IllegalArgumentException": return "ARGUMENT";
+            case "java.lang.IllegalStateException": return "STATE";
+            case "java.util.NoSuchElementException": return "ELEMENT";
+            default: return exception.getName();
+        }
     }
 
     private static void othersArePrivate(Class<?> type, Set<String> names) {

@@ -1,13 +1,16 @@
 /** Stations and channels that are not there, links that are not UP, and packets that cannot be handed. */
-public final class RefusalTest {
+public final class RefusalTest extends Checks {
     private static final int[] NO_STATIONS = {-1, 2, 3, Integer.MIN_VALUE, Integer.MAX_VALUE};
     private static final int[] NO_CHANNELS = {-1, 3, 4, Integer.MIN_VALUE, Integer.MAX_VALUE};
 
     public static void main(String[] args) {
-        for (ChannelledLink x : new ChannelledLink[] {new ChannelledLink(), Checks.up(), Checks.opened(1)}) {
+        sentence("Numbers of stations and channels that are not there are refused with IndexOutOfBoundsException, "
+                + "before all else.");
+        for (ChannelledLink x : new ChannelledLink[] {new ChannelledLink(), up(), opened(1)}) {
             for (int s : NO_STATIONS) {
                 noSuchStation(x, s);
                 noSuchPlace(x, s, 0);
+                noSuchPlace(x, s, 3);
             }
             for (int c : NO_CHANNELS) {
                 noSuchPlace(x, 0, c);
@@ -16,34 +19,50 @@ public final class RefusalTest {
             cannotBeHanded(x);
         }
         linkIsNotUp();
-        Checks.finish();
+        placesThatAreThere();
+        finish();
+    }
+
+    private static void placesThatAreThere() {
+        sentence("STATIONS are 0 and 1, each the PEER of the other; CHANNELS 0 .. 2.");
+        for (int s = 0; s < 2; s++) {
+            for (int c = 0; c < 3; c++) {
+                ChannelledLink x = up();
+                x.call(s, c);
+                due("CALL goes to the peer", line(x, 1 - s), "[3 0 0 1 " + c + " 0 0 0]");
+                due("not to itself", x.link(s, LINE), 0);
+                x.deliver(1 - s);
+                due("CALLED at the peer", x.channel(1 - s, c, STATE), CALLED);
+                due("CALLING here", x.channel(s, c, STATE), CALLING);
+            }
+        }
     }
 
     private static void noSuchStation(ChannelledLink x, int s) {
-        Checks.refused("2: open " + s, x, Checks.INDEX, () -> x.open(s));
-        Checks.refused("3: expire " + s, x, Checks.INDEX, () -> x.expire(s));
-        Checks.refused("4: deliver " + s, x, Checks.INDEX, () -> x.deliver(s));
-        Checks.refused("5: lose " + s, x, Checks.INDEX, () -> x.lose(s));
-        Checks.refused("13: link " + s, x, Checks.INDEX, () -> x.link(s, 0));
-        Checks.refused("13: link before what " + s, x, Checks.INDEX, () -> x.link(s, -1));
-        Checks.refused("15: frame " + s, x, Checks.INDEX, () -> x.frame(s, 0, 0));
-        Checks.refused("15: frame before k and what " + s, x, Checks.INDEX, () -> x.frame(s, -1, -1));
+        refused("2: open " + s, x, INDEX, () -> x.open(s));
+        refused("3: expire " + s, x, INDEX, () -> x.expire(s));
+        refused("4: deliver " + s, x, INDEX, () -> x.deliver(s));
+        refused("5: lose " + s, x, INDEX, () -> x.lose(s));
+        refused("13: link " + s, x, INDEX, () -> x.link(s, 0));
+        refused("13: link before what " + s, x, INDEX, () -> x.link(s, -1));
+        refused("15: frame " + s, x, INDEX, () -> x.frame(s, 0, 0));
+        refused("15: frame before k and what " + s, x, INDEX, () -> x.frame(s, -1, -1));
     }
 
     private static void noSuchPlace(ChannelledLink x, int s, int c) {
         String place = " " + s + " " + c;
-        Checks.refused("6: hand" + place, x, Checks.INDEX, () -> x.hand(s, c, Checks.CALL, 0, 0));
-        Checks.refused("6: hand before false" + place, x, Checks.INDEX, () -> x.hand(s, c, 0, 8, -1));
-        Checks.refused("7: call" + place, x, Checks.INDEX, () -> x.call(s, c));
-        Checks.refused("8: accept" + place, x, Checks.INDEX, () -> x.accept(s, c));
-        Checks.refused("9: clear" + place, x, Checks.INDEX, () -> x.clear(s, c));
-        Checks.refused("10: reset" + place, x, Checks.INDEX, () -> x.reset(s, c));
-        Checks.refused("11: send" + place, x, Checks.INDEX, () -> x.send(s, c, 0, false));
-        Checks.refused("11: send before value" + place, x, Checks.INDEX, () -> x.send(s, c, 256, false));
-        Checks.refused("12: receive" + place, x, Checks.INDEX, () -> x.receive(s, c));
-        Checks.refused("14: channel" + place, x, Checks.INDEX, () -> x.channel(s, c, 0));
-        Checks.refused("14: channel before what" + place, x, Checks.INDEX, () -> x.channel(s, c, -1));
-        Checks.refused("16: peek" + place, x, Checks.INDEX, () -> x.peek(s, c));
+        refused("6: hand" + place, x, INDEX, () -> x.hand(s, c, CALL, 0, 0));
+        refused("6: hand before false" + place, x, INDEX, () -> x.hand(s, c, 0, 8, -1));
+        refused("7: call" + place, x, INDEX, () -> x.call(s, c));
+        refused("8: accept" + place, x, INDEX, () -> x.accept(s, c));
+        refused("9: clear" + place, x, INDEX, () -> x.clear(s, c));
+        refused("10: reset" + place, x, INDEX, () -> x.reset(s, c));
+        refused("11: send" + place, x, INDEX, () -> x.send(s, c, 0, false));
+        refused("11: send before value" + place, x, INDEX, () -> x.send(s, c, 256, false));
+        refused("12: receive" + place, x, INDEX, () -> x.receive(s, c));
+        refused("14: channel" + place, x, INDEX, () -> x.channel(s, c, 0));
+        refused("14: channel before what" + place, x, INDEX, () -> x.channel(s, c, -1));
+        refused("16: peek" + place, x, INDEX, () -> x.peek(s, c));
     }
 
     private static void cannotBeHanded(ChannelledLink x) {
@@ -60,9 +79,9 @@ public final class RefusalTest {
 
     private static void notHanded(ChannelledLink x, int kind, int number, int acknowledgement) {
         String what = "6: hand kind " + kind + " number " + number + " acknowledgement " + acknowledgement;
-        String before = Checks.state(x);
-        Checks.due(what, x.hand(0, 1, kind, number, acknowledgement), false);
-        Checks.due(what + " changes nothing", Checks.state(x), before);
+        String before = state(x);
+        due(what, x.hand(0, 1, kind, number, acknowledgement), false);
+        due(what + " changes nothing", state(x), before);
     }
 
     private static void linkIsNotUp() {
@@ -70,14 +89,14 @@ public final class RefusalTest {
         ChannelledLink setting = new ChannelledLink();
         setting.open(0);
         for (ChannelledLink x : new ChannelledLink[] {down, setting}) {
-            Checks.refused("7: call, not UP", x, Checks.ILLEGAL, () -> x.call(0, 0));
-            x.hand(0, 0, Checks.CALL, 0, 0);
-            Checks.refused("8: accept, not UP", x, Checks.ILLEGAL, () -> x.accept(0, 0));
-            Checks.refused("9: clear, not UP", x, Checks.ILLEGAL, () -> x.clear(0, 0));
-            Checks.refused("10: reset, not UP", x, Checks.ILLEGAL, () -> x.reset(0, 0));
-            Checks.refused("11: send, not UP", x, Checks.ILLEGAL, () -> x.send(0, 0, 0, false));
-            Checks.refused("11: value first", x, Checks.ARGUMENT, () -> x.send(0, 0, -1, false));
-            Checks.refused("12: receive, not UP", x, Checks.ILLEGAL, () -> x.receive(0, 0));
+            refused("7: call, not UP", x, ILLEGAL, () -> x.call(0, 0));
+            x.hand(0, 0, CALL, 0, 0);
+            refused("8: accept, not UP", x, ILLEGAL, () -> x.accept(0, 0));
+            refused("9: clear, not UP", x, ILLEGAL, () -> x.clear(0, 0));
+            refused("10: reset, not UP", x, ILLEGAL, () -> x.reset(0, 0));
+            refused("11: send, not UP", x, ILLEGAL, () -> x.send(0, 0, 0, false));
+            refused("11: value first", x, ARGUMENT, () -> x.send(0, 0, -1, false));
+            refused("12: receive, not UP", x, ILLEGAL, () -> x.receive(0, 0));
         }
     }
 }
