@@ -23,6 +23,7 @@ public final class EdgesTest extends Checks {
         handNumbers();
         handNumbersOfNoMatter();
         handWhateverTheLink();
+        handHearsThePacketAlone();
         handValue();
         callsAsWhenLinkIsNotUp();
         callsWithNineInOut();
@@ -36,9 +37,12 @@ public final class EdgesTest extends Checks {
         receiveTakes();
         receiveNone();
         receiveOrderOfRefusals();
+        linkSays();
         linkOthers();
+        channelSays();
         channelOthers();
         frameKinds();
+        frameSaysOfItsPacket();
         frameOthers();
         peekLooks();
         fiveHundredAndTwelveCalls();
@@ -312,6 +316,17 @@ public final class EdgesTest extends Checks {
         }
     }
 
+    private static void handHearsThePacketAlone() {
+        sentence("A packet of this kind comes to station s on channel c, as if it had been heard in a frame");
+        ChannelledLink x = confirmedOutOfTurn(3);
+        loseAll(x, 1);
+        String before = link(x, 0);
+        x.hand(0, 2, CALL, 0, 0);
+        due("heard", x.channel(0, 2, STATE), CALLED);
+        due("no frame is heard: none expected, confirmed or pumped", link(x, 0), before);
+        due("nor READY sent", x.link(1, LINE), 0);
+    }
+
     private static void handValue() {
         sentence("value 0 and not more");
         ChannelledLink x = inState(0, OPEN);
@@ -386,9 +401,19 @@ public final class EdgesTest extends Checks {
         });
     }
 
+    /** Which sentence says in which states of the channel a call is refused. */
+    private static String sentenceOfStates(String name) {
+        switch (name) {
+            case "call": return "or the channel is not IDLE";
+            case "accept": return "IllegalStateException as for call, but when the channel is not CALLED.";
+            case "clear": return "IllegalStateException as for call, but when the channel is IDLE or CLEARING.";
+            default: return "IllegalStateException as for call, but when the channel is not OPEN";
+        }
+    }
+
     private static void callsInWrongStates() {
-        sentence("IllegalStateException as for call, but when the channel is not");
         eachCall((name, states) -> {
+            sentence(sentenceOfStates(name));
             for (int state = IDLE; state <= RESETTING; state++) {
                 boolean fits = false;
                 for (int right : states) {
@@ -520,6 +545,39 @@ public final class EdgesTest extends Checks {
         refused("no station and DOWN", down, INDEX, () -> down.expire(-1));
     }
 
+    private static void linkSays() {
+        sentence("what = 0 its link, 1 sent, 2 acknowledged, 3 expected, 4 tries, 5 whether it has rejected (1 or 0), "
+                + "6 how many packets are in OUT, 7 how many frames are in its line");
+        ChannelledLink x = up();
+        goOn(x, 1);
+        fillOut(x, 1, 0, 4);
+        x.deliver(0);
+        x.deliver(0);
+        x.lose(1);
+        fillOut(x, 0, 0, 7);
+        fillOut(x, 1, 0, 3);
+        x.expire(0);
+        x.expire(0);
+        x.lose(0);
+        due("READY is still there", x.deliver(1), READY);
+        due("each number is another", link(x, 1), "2 5 2 1 0 0 5 9");
+        due("and of the peer", link(x, 0), "2 4 1 2 2 0 7 2");
+        due("a CARRIER out of turn", x.lose(0), CARRIER);
+        due("and another", x.deliver(0), CARRIER);
+        due("rejected", x.link(0, 5), 1);
+    }
+
+    private static void channelSays() {
+        sentence("what = 0 its state, 1 next, 2 passed, 3 due, 4 taken");
+        ChannelledLink x = withNumbers();
+        x.receive(0, 1);
+        x.hand(0, 1, DATA, 3, 1);
+        due("each number is another", channel(x, 0, 1), "3 2 1 4 2 0");
+        for (int state = IDLE; state <= RESETTING; state++) {
+            due("its state", inState(1, state).channel(1, 1, 0), state);
+        }
+    }
+
     private static void linkOthers() {
         sentence("-1 for others");
         ChannelledLink x = up();
@@ -569,6 +627,19 @@ public final class EdgesTest extends Checks {
         y.open(1);
         y.deliver(0);
         due("CARRIER, SETUP and AGREED", line(y, 1), "[3 1 1 5 2 0 0 456][1 0 0 0 0 0 0 0][2 0 0 0 0 0 0 0]");
+    }
+
+    private static void frameSaysOfItsPacket() {
+        sentence("4 the packet's channel, 5 its number, 6 its acknowledgement, 7 its value and 256 more when there is more "
+                + "(all 0 if it has none)");
+        ChannelledLink x = withNumbers();
+        drain(x);
+        x.receive(0, 1);
+        x.send(0, 1, 9, true);
+        due("MOVE has no number and no value", frame(x, 1, 0), "3 4 0 6 1 0 2 0");
+        due("DATA has all", frame(x, 1, 1), "3 5 0 5 1 2 2 265");
+        x.reset(0, 1);
+        due("RESET has none of these", frame(x, 1, 2), "3 6 0 7 1 0 0 0");
     }
 
     private static void frameOthers() {

@@ -9,6 +9,7 @@ public final class HearingFramesTest extends Checks {
         agreedWhenUpCleans();
         nothingIsPumpedWhenNotUp();
         thePumpedBearSentAndExpected();
+        theFirstAreUnconfirmed();
         aPacketIsPutBehindOut();
         setupWhenSetting();
         agreedWhenDown();
@@ -175,6 +176,17 @@ public final class HearingFramesTest extends Checks {
         fillOut(x, 0, 0, 1);
         due("three CARRIERS", line(x, 1), "[3 0 2 4 2 0 0 0][3 1 2 4 1 0 0 0][3 2 2 4 0 0 0 0]");
         due("sent grows", x.link(0, SENT), 3);
+    }
+
+    private static void theFirstAreUnconfirmed() {
+        sentence("the first sent - acknowledged of them are UNCONFIRMED, the others wait");
+        ChannelledLink x = up();
+        for (int c = 0; c < 3; c++) {
+            fillOut(x, 0, c, 2);
+        }
+        loseAll(x, 1);
+        x.expire(0);
+        due("the first three of six", line(x, 1), "[3 0 0 4 0 0 0 0][3 1 0 4 0 0 0 0][3 2 0 4 1 0 0 0]");
     }
 
     private static void aPacketIsPutBehindOut() {

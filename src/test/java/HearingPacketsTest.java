@@ -8,6 +8,7 @@ public final class HearingPacketsTest extends Checks {
         clearWhenClearing();
         clearWhenAnother();
         clearedWhenClearing();
+        renewingEndsAllNumbersAndTheRow();
         idleIsRenewed();
         acknowledgementsThatFit();
         passedIsTheAcknowledgement();
@@ -108,6 +109,19 @@ public final class HearingPacketsTest extends Checks {
         sentence("CLEARED: CLEARING becomes IDLE.");
         heard(0, CLEARED, CLEARING, IDLE, 0);
         heard(1, CLEARED, CLEARING, IDLE, 0);
+    }
+
+    private static void renewingEndsAllNumbersAndTheRow() {
+        sentence("To RENEW a channel: its numbers are 0 and the row is empty.");
+        for (int s = 0; s < 2; s++) {
+            ChannelledLink x = withNumbers(s);
+            x.hand(s, 1, RESET, 0, 0);
+            due("no number, no data", channel(x, s, 1), "3 0 0 0 0 -1");
+            x.hand(s, 1, DATA, 0, 0);
+            x.hand(s, 1, DATA, 1, 0);
+            due("room for two again", channel(x, s, 1), "3 0 0 2 0 0");
+            due("none is there of before", x.receive(s, 1) + x.receive(s, 1) + x.peek(s, 1), -1);
+        }
     }
 
     private static void idleIsRenewed() {
